@@ -260,6 +260,15 @@ public final class KitchenTest {
             CHECK.due("size(" + what + ")", x.size(what), sizes[what]);
         }
         CHECK.due("thick(0, 1, 1)", x.thick(0, 1, 1), 2);
+        LongerHalf names = new LongerHalf();
+        CHECK.due("kitchen() with names almost alike", Check.tell(names, Texts.RULES + ";" + Texts.HEN.replace(" h ", " aab ")
+                + more("person #b plain force 1 hold 1 wish 1", 0, 2) + more("person ba# plain force 1 hold 1 wish 1", 0, 1)
+                + ";person abzzzzzz plain force 1 hold 1 wish 1;person bbzzzzzz plain force 1 hold 1 wish 1"
+                + ";person az plain force 1 hold 1 wish 1;won az ab left;won bbzzzzzz abzzzzzz left;won az baa left"), 1);
+        int[] won = {0, 0, 0, 0, 1, 2};
+        for (int p = 0; p < won.length; p++) {
+            CHECK.due("person(" + p + ", 5)", names.person(p, 5), won[p]);
+        }
         LongerHalf y = new LongerHalf();
         Check.feed(y, Check.bytes(L + " and what is behind it !!!!"));
         CHECK.due("kitchen() of the first bytes", y.kitchen(L.length()), 1);
