@@ -2,9 +2,10 @@ import java.nio.charset.StandardCharsets;
 import java.util.Arrays;
 
 /** What all tests use: counting answers that are not as due, and telling a text to a LongerHalf. */
-final class Check {
-    private final String name;
-    private int asked;
+class Check {
+    /** Of which test, or of which case of it, the answers are. */
+    String name;
+    int asked;
     private int wrong;
 
     Check(String name) {
@@ -38,6 +39,16 @@ final class Check {
     void part(String call, long gotUp, long gotLow, long up, long low) {
         due(call + " upper", gotUp, up);
         due(call + " lower", gotLow, low);
+    }
+
+    /** A text with a FAULT, whose place is where ^ stands in it. */
+    void faulty(int number, String marked) {
+        int place = marked.indexOf('^');
+        String text = marked.substring(0, place) + marked.substring(place + 1);
+        LongerHalf x = new LongerHalf();
+        refused(x, marked, tell(x, text), 4);
+        due("fault() of " + marked, x.fault(), number);
+        due("where() of " + marked, x.where(), place);
     }
 
     void end() {

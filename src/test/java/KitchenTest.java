@@ -98,14 +98,8 @@ public final class KitchenTest {
         CHECK.due("fault() stays", y.fault(), 6);
     }
 
-    /** The place of the FAULT is where ^ stands in the text. */
     private static void faulty(int number, String marked) {
-        int place = marked.indexOf('^');
-        String text = marked.substring(0, place) + marked.substring(place + 1);
-        LongerHalf x = new LongerHalf();
-        CHECK.refused(x, marked, Check.tell(x, text), 4);
-        CHECK.due("fault() of " + marked, x.fault(), number);
-        CHECK.due("where() of " + marked, x.where(), place);
+        CHECK.faulty(number, marked);
     }
 
     private static void form() {
@@ -204,11 +198,7 @@ public final class KitchenTest {
     }
 
     private static String more(String line, int from, int count) {
-        StringBuilder text = new StringBuilder();
-        for (int i = 0; i < count; i++) {
-            text.append(';').append(line.replace('#', (char) ('a' + from + i)));
-        }
-        return text.toString();
+        return Texts.more(line, from, count);
     }
 
     private static void many() {

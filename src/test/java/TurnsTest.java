@@ -10,11 +10,7 @@ public final class TurnsTest {
     }
 
     private static LongerHalf people(int count) {
-        StringBuilder text = new StringBuilder(Texts.RULES + ";" + Texts.HEN);
-        for (int p = 0; p < count; p++) {
-            text.append(";person ").append((char) ('a' + p)).append(" plain force 1 hold 1 wish 1");
-        }
-        return Check.told(text.toString());
+        return Check.told(Texts.people(count));
     }
 
     private static void turns(int people, int... pairs) {
