@@ -86,6 +86,7 @@ public final class FaceTest {
             }
             is(c + " has some twenty fields", fields <= 20);
             for (Method m : c.getDeclaredMethods()) {
+                is(m + " bears no public one's name", !FACE.contains(" " + m.getName() + "("));
                 is(m + " takes seven parameters at most", m.getParameterCount() <= 7);
             }
         }

@@ -75,6 +75,39 @@ public final class Promise24Test {
         first(6, 1, 23, 1, 23, 45, 1, 45, 23, 45);
     }
 
+    /** Goes on from so many pairs by the least ones that serve, and asks whether turns are even at the end alone. */
+    private static boolean goesOn(int[] pairs, int week, int people) {
+        if (week == pairs.length) {
+            int[] had = new int[people];
+            for (int pair : pairs) {
+                had[pair / 10]++;
+                had[pair % 10]++;
+            }
+            Arrays.sort(had);
+            return had[people - 1] - had[0] <= 1;
+        }
+        for (int pair = 1; pair < 10 * people; pair++) {
+            boolean isPair = pair / 10 < pair % 10 && pair % 10 < people;
+            if (isPair && (week == 0 || !share(pairs[week - 1], pair))) {
+                pairs[week] = pair;
+                if (goesOn(pairs, week + 1, people)) {
+                    return true;
+                }
+            }
+        }
+        return false;
+    }
+
+    static void noOtherComesAheadOfIt() {
+        for (int people = 4; people <= 6; people++) {
+            for (int w = 1; w <= 9; w++) {
+                int[] pairs = new int[w];
+                C.due("there are such", goesOn(pairs, 0, people), true);
+                first(people, pairs);
+            }
+        }
+    }
+
     private static boolean share(int pair, int other) {
         return pair / 10 == other / 10 || pair / 10 == other % 10 || pair % 10 == other / 10 || pair % 10 == other % 10;
     }

@@ -18,6 +18,31 @@ public final class Promise38Test {
         C.refuses(x, 5, "a boiled goose's", () -> x.pull(1, 0, 2, 1, 2, 2));
     }
 
+    /** A goose's bone answers as a hen's does, told alike, whatever is asked; it is pulled alone that it isn't. */
+    static void allIsAskedOfAGoosesAsOfOthers() {
+        String text = Texts.FULL.replace("h hen dry", "h # dry");
+        LongerHalf hen = Check.told(text.replace("#", "hen"));
+        LongerHalf goose = Check.told(text.replace("#", "goose"));
+        Cases.Call[] calls = {
+            (x, v) -> x.bone(0, 1), (x, v) -> x.thick(0, v % 2, 1), (x, v) -> x.strength(0, v % 2, 1, 3),
+            (x, v) -> x.strain(0, 1, 0, 0, 2, 1, 3, v), (x, v) -> x.pulled(0, 0, 2, 1, 3, v),
+            (x, v) -> x.breaksAt(0, 0, 2, 1, 3, v), (x, v) -> x.flawed(0, 0, 2, 1, 3, 2, v % 2, v / 2),
+            (x, v) -> x.odds(0, 0, 2, 1, 3, 2, v, false), (x, v) -> x.odds(0, 0, 2, 1, 3, 2, v, true),
+            (x, v) -> x.best(0, 0, 1, 1), (x, v) -> x.rests(0, v, (v + 1) % 4), (x, v) -> x.rest(0, v, (v + 1) % 4),
+            (x, v) -> x.sure(0, v, (v + 1) % 4, true), (x, v) -> x.curve(0, 0, 1, 10 + v, true),
+            (x, v) -> x.bestDay(0, v, (v + 1) % 4), (x, v) -> x.lawOdds(v, 0, 0, 1, false),
+            (x, v) -> x.fairest(0, v, (v + 1) % 4), (x, v) -> x.knob(v % 2), (x, v) -> x.owners(v % 2),
+            (x, v) -> x.wins(v, 0, 50), (x, v) -> x.spoilt(v, 50, true), (x, v) -> x.led(v % 3),
+        };
+        for (int i = 0; i < calls.length; i++) {
+            for (int v = 0; v < 4; v++) {
+                C.due("call " + i + " of " + v, calls[i].ask(goose, v).equals(calls[i].ask(hen, v)), true);
+            }
+        }
+        C.refuses(goose, 5, "pull()", () -> goose.pull(0, 0, 2, 1, 3, 2));
+        C.allows(hen, "pull()", () -> hen.pull(0, 0, 2, 1, 3, 2));
+    }
+
     static void aGoneOne() {
         LongerHalf x = Check.told(Texts.FULL);
         x.pull(0, 0, 2, 1, 3, 2);
