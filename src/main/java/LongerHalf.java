@@ -14,6 +14,8 @@ public final class LongerHalf {
     private static final int MOST_WEEKS = 9;
     private static final int MOST_SUNDAYS = 200;
     private static final int MOST_SEED = 65536;
+    /** More than any ODDS in their parts, or turns, come to. */
+    private static final int ABOVE_ALL = 1000000;
 
     private static final int LEFT = 0;
     private static final int RIGHT = 1;
@@ -309,7 +311,7 @@ public final class LongerHalf {
             return NONE;
         }
         int fairest = 0;
-        int nearest = Integer.MAX_VALUE;
+        int nearest = ABOVE_ALL;
         for (int law = 0; law <= BY_LOT; law++) {
             int off = Math.abs(twiceByLaw(law, b, p, q) - pulling.whole);
             if (off < nearest) {
@@ -1709,7 +1711,7 @@ public final class LongerHalf {
         int surest() {
             int surest = 0;
             for (int i = 0; i < leftCount; i++) {
-                int least = Integer.MAX_VALUE;
+                int least = ABOVE_ALL;
                 for (int j = 0; j < rightCount; j++) {
                     least = Math.min(least, leftOdds[i][j]);
                 }
@@ -1766,7 +1768,7 @@ public final class LongerHalf {
         }
 
         private boolean isEven() {
-            int least = Integer.MAX_VALUE;
+            int least = ABOVE_ALL;
             int most = 0;
             for (int p = 0; p < people; p++) {
                 least = Math.min(least, had[p]);

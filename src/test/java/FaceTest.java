@@ -1,18 +1,13 @@
-import java.io.IOException;
 import java.lang.management.ManagementFactory;
 import java.lang.reflect.Constructor;
 import java.lang.reflect.Field;
 import java.lang.reflect.Method;
 import java.lang.reflect.Modifier;
-import java.nio.file.Files;
-import java.nio.file.Path;
 import java.util.Arrays;
 import java.util.Set;
 import java.util.TreeSet;
-import java.util.regex.Matcher;
-import java.util.regex.Pattern;
 
-/** The public face, and what LANGUAGE.md and the page of the project bind that can be looked at from outside. */
+/** The public face as compiled, and that calls make no objects. LanguageTest has what the source shows. */
 public final class FaceTest {
     private static final Check CHECK = new Check("FaceTest");
 
@@ -29,10 +24,8 @@ public final class FaceTest {
             + "int pull(int,int,int,int,int,int);boolean seed(int);boolean undo();int mark();boolean back(int);"
             + "int led(int);int size(int);int trouble()";
 
-    public static void main(String[] args) throws IOException {
+    public static void main(String[] args) {
         face();
-        inside();
-        source();
         room();
         CHECK.end();
     }
@@ -72,44 +65,6 @@ public final class FaceTest {
                 && made[0].getParameterCount() == 0);
         is("public and final", Modifier.isPublic(LongerHalf.class.getModifiers())
                 && Modifier.isFinal(LongerHalf.class.getModifiers()));
-    }
-
-    private static void inside() {
-        Class<?>[] classes = LongerHalf.class.getDeclaredClasses();
-        is("some twelve classes", classes.length <= 12);
-        for (Class<?> c : classes) {
-            is(c + " is static", Modifier.isStatic(c.getModifiers()));
-            int fields = 0;
-            for (Field f : c.getDeclaredFields()) {
-                fields += Modifier.isStatic(f.getModifiers()) ? 0 : 1;
-                is(f + " is final if static", !Modifier.isStatic(f.getModifiers()) || Modifier.isFinal(f.getModifiers()));
-            }
-            is(c + " has some twenty fields", fields <= 20);
-            for (Method m : c.getDeclaredMethods()) {
-                is(m + " bears no public one's name", !FACE.contains(" " + m.getName() + "("));
-                is(m + " takes seven parameters at most", m.getParameterCount() <= 7);
-            }
-        }
-    }
-
-    private static void source() throws IOException {
-        Path path = Path.of("src/main/java/LongerHalf.java");
-        String text = Files.readString(path).replaceAll("(?s)/\\*.*?\\*/|//[^\n]*", "").replaceAll("\"[^\"]*\"", "\"\"");
-        String forbidden = "\\b(try|catch|finally|synchronized|assert|instanceof|goto|package|System|Thread|Random|var"
-                + "|double|float|Object|equals|hashCode|toString)\\b|->|::|Exact\\b";
-        Matcher m = Pattern.compile(forbidden).matcher(text);
-        is("no word that the language leaves out", !m.find());
-        Matcher imports = Pattern.compile("import ([\\w.]+);").matcher(text);
-        while (imports.find()) {
-            is("import of " + imports.group(1), imports.group(1).equals("java.util.NoSuchElementException"));
-        }
-        int open = 0;
-        for (String line : text.split("\n")) {
-            boolean begins = line.matches("    (    )?\\S.*\\) (throws \\w+ )?\\{");
-            boolean ends = line.matches("    (    )?}");
-            open = begins ? 1 : ends ? 0 : open == 0 ? 0 : open + 1;
-            is("methods of sixty lines at most: " + line, open <= 60);
-        }
     }
 
     /** No call makes objects: all of a run live in one room. */
